@@ -88,7 +88,6 @@ public final class ParishNames {
 
     public int event(int i, int what) {
         if (what < 0 || what > 4) return OUTSIDE;
-        if (i < 0 || i >= now.eventCount()) return NONE;
         return now.factOf(i, what);
     }
 

@@ -135,6 +135,7 @@ public final class EventsTest {
         Due.say(x, "c");
         due.is("5 STATE ahead of NO", x.split(0, 0, 49), ParishNames.STATE);
         due.is("5 the empty set", x.split(0, 0, 50), ParishNames.NO);
+        due.is("5 the set of all sites", x.split(0, 4095, 50), ParishNames.NO);
         due.is("5 not its site", x.split(0, 5, 50), ParishNames.NO);
         due.is("5 all of its sites", x.split(1, 3, 50), ParishNames.NO);
         due.is("5 all and more", x.split(1, 7, 50), ParishNames.NO);
@@ -238,6 +239,7 @@ public final class EventsTest {
         due.is("7 year 1000", x.shift(0, 16, 2, 1000), ParishNames.OUTSIDE);
         due.is("7 STATE ahead of NO", x.shift(0, 0, 2, 7), ParishNames.STATE);
         due.is("7 the empty set", x.shift(0, 0, 2, 8), ParishNames.NO);
+        due.is("7 the set of all sites", x.shift(0, 4095, 2, 8), ParishNames.NO);
         due.is("7 not its site", x.shift(0, 17, 2, 8), ParishNames.NO);
         due.is("7 all of its sites", x.shift(2, 15, 0, 8), ParishNames.NO);
         due.is("7 the other is not there", x.shift(0, 16, 1, 8), ParishNames.NO);

@@ -34,6 +34,11 @@ public final class ImagesTest {
         ParishNames y = new ParishNames();
         y.image(1);
         due.is("20 only the second", y.count(6), 2);
+        Due.split(y, 0, 1, "b", 10);
+        y.restore(1);
+        due.is("21 no such parish then", y.sites(1, 10), ParishNames.UNKNOWN);
+        due.is("21 nor event", y.count(0), 0);
+        due.is("21 the next is the first again", Due.split(y, 0, 2, "c", 5), 1);
     }
 
     private static void restore() {

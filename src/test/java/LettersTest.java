@@ -39,7 +39,11 @@ public final class LettersTest {
         x.wipe();
         Due.say(x, "wall");
         finds(x, 0, 999, 1, 5);
-        due.is("15 the pad stays", x.count(2), 4);
+        due.is("15 the pad stays", x.wipe(), 4);
+        Due.named(x, 5, "bcdlm", 20);
+        Due.say(x, "pgtlrr");
+        finds(x, 0, 999, 1, 5);
+        due.is("16 alike up to the fourth class", x.called(4, 0, 999, 1, 1), 20);
     }
 
     private static void findByYears() {
