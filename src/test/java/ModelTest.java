@@ -62,17 +62,17 @@ public final class ModelTest {
 
     /** A year not below that of the last event, more often than not close behind it. */
     private int aLaterYear() {
-        int last = x.count(3);
+        int last = model.answer("count", new int[] {3});
         if (upTo(10) == 0) return aYear();
         return Math.min(999, last + (upTo(3) == 0 ? upTo(Math.max(2, years / 20)) : 0));
     }
 
     private int aParish() {
-        return upTo(Math.min(16, x.count(1) + (upTo(10) == 0 ? 1 : 0)));
+        return upTo(Math.min(16, model.answer("count", new int[] {1}) + (upTo(10) == 0 ? 1 : 0)));
     }
 
     private int someSitesOf(int parish) {
-        int has = x.sites(parish, 999);
+        int has = model.answer("sites", new int[] {parish, 999});
         return upTo(10) == 0 ? upTo(4096) : Math.max(has, 0) & (upTo(2) == 0 ? upTo(4096) : 1 << upTo(12));
     }
 
