@@ -110,6 +110,18 @@ public final class LettersTest extends Sentences {
             write(x, "c");
             finds(x, 0, 19, 0);
         });
+        test(15, "PARISHES that ARE THERE in any YEAR from one to another one", "the first name, which it has no more", x -> {
+            named(x, 0, "york", 20);
+            write(x, "a");
+            finds(x, 0, 0, 0, 0);
+            finds(x, 19, 999, 0, 0);
+            finds(x, 20, 999, 0);
+        });
+        test(15, "PARISHES that ARE THERE in any YEAR from one to another one", "the first name, held in no year", x -> {
+            named(x, 0, "york", 0);
+            write(x, "a");
+            finds(x, 0, 999, 0);
+        });
         test(15, "PARISHES that ARE THERE in any YEAR from one to another one", "a name that held in no year", x -> {
             named(x, 0, "leeds", 60);
             named(x, 0, "york", 60);
@@ -237,6 +249,13 @@ public final class LettersTest extends Sentences {
             write(x, "a");
             isCalled(x, 0, 0, 999, 0, 1000, 0, 999);
             isCalled(x, 0, 100, 199, 0, 100, 100, 199);
+        });
+        test(16, "In how many YEARS from one to another one", "the first name, which it has no more", x -> {
+            named(x, 0, "york", 20);
+            write(x, "a");
+            isCalled(x, 0, 0, 999, 0, 20, 0, 19);
+            isCalled(x, 0, 19, 999, 0, 1, 19, 19);
+            isCalled(x, 0, 20, 999, 0, 0, NONE, NONE);
         });
         test(16, "In how many YEARS from one to another one", "a name that held in no year", x -> {
             named(x, 0, "ely", 7);
